@@ -30,6 +30,13 @@ public final class BlockerDesk {
         0x1L, 0x3L, 0xFL, 0xFFL, 0xFFFFL, 0xFFFFFFFFL, 0xFFFFFFFFFFFFFFFFL
     };
     private static final int[] POWERS_OF_3 = {1, 3, 9, 27, 81, 243, 729};
+    /** For each set the number to the base 3 that has a figure 1 for each of its points. */
+    private static final int[] IN_BASE_3 = {
+        0, 1, 3, 4, 9, 10, 12, 13, 27, 28, 30, 31, 36, 37, 39, 40,
+        81, 82, 84, 85, 90, 91, 93, 94, 108, 109, 111, 112, 117, 118, 120, 121,
+        243, 244, 246, 247, 252, 253, 255, 256, 270, 271, 273, 274, 279, 280, 282, 283,
+        324, 325, 327, 328, 333, 334, 336, 337, 351, 352, 354, 355, 360, 361, 363, 364
+    };
 
     private final Board board = new Board();
     private final Board before = new Board();
@@ -821,7 +828,7 @@ public final class BlockerDesk {
                 long fitting = without(family, usedUp(left));
                 int best = 0;
                 for (int s = 1; s < ALL_SETS && fitting >>> s != 0; s++) {
-                    int rest = left - inBase3(s);
+                    int rest = left - IN_BASE_3[s];
                     if (has(fitting, s) && rest >= 0) {
                         best = Math.max(best, 1 + most[rest]);
                     }
@@ -840,14 +847,6 @@ public final class BlockerDesk {
                 }
             }
             return points;
-        }
-
-        static int inBase3(int set) {
-            int number = 0;
-            for (int p = 0; p < MOST_POINTS; p++) {
-                number += (set >> p & 1) * POWERS_OF_3[p];
-            }
-            return number;
         }
 
         /** HALF: points that have 2 and points that have 1 are tried, all in all. */
@@ -889,7 +888,9 @@ public final class BlockerDesk {
             int all = (1 << n) - 1;
             for (int d = 0; d <= all; d++) {
                 for (int c = 0; c <= all; c++) {
-                    if ((d & c) == 0 && !isPacking(minorOf(family, d, c))) {
+                    // all families of fewer than three points pack
+                    boolean open = (d & c) == 0 && n - Integer.bitCount(d | c) >= 3;
+                    if (open && !isPacking(minorOf(family, d, c))) {
                         return ALL_SETS * d + c;
                     }
                 }

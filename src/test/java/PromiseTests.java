@@ -758,6 +758,10 @@ public final class PromiseTests {
         due(x.film(1), 0);
         due(x.put(1, 0, 1), -13);
         due(x.judge(1), -2);
+        x.points(2);
+        due(x.film(1), 1);
+        due(x.get(1, 0), 0);
+        due(x.get(1, 1), LEAST);
     }
 
     private static void judge() {
@@ -822,11 +826,15 @@ public final class PromiseTests {
         due(x.count(6), 10);
         x.weight(1, 4);
         due(x.count(6), 10);
+        x.weight(1, 5);
+        x.weight(1, 6);
+        due(x.count(6), 10);
         for (int left = 9; left >= 0; left--) {
             due(x.back(), left);
+            due(x.of(1, 1), Math.max(1, left - 4));
         }
         due(x.back(), -5);
-        due(x.of(0, 1), 2);
+        due(x.of(0, 1), 4);
         due(x.of(1, 1), 1);
     }
 
@@ -901,6 +909,7 @@ public final class PromiseTests {
         due(readText(x, "add -;add -"), 2);
         setsAre(x, 0);
         due(readText(x, "take -;take -"), -201);
+        due(readText(x, "weigh 0 9;weigh 0 0"), 2);
         due(readText(x, "turn;turn;turn;turn;turn;turn;turn;turn;turn;turn;turn;turn;turn;turn;turn;turn"), 16);
         due(x.count(6), 10);
         due(readText(x, "add 0;ad 1"), -106);
