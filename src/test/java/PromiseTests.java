@@ -1,72 +1,8 @@
 /** For each promise of the document what it says of ordinary numbers, of edges and of wrong ones. */
-public final class PromiseTests {
-    private static final int LEAST = Integer.MIN_VALUE, GREATEST = Integer.MAX_VALUE;
-    private static int wrong = 0;
-    private static int promise = 0;
-    private static int row = 0;
-
-    /** A row of a promise: what was answered, and what is due. */
-    private static void due(int got, int want) {
-        row++;
-        if (got != want) {
-            wrong++;
-            System.out.println("promise " + promise + ", row " + row + ": answered " + got + ", due is " + want);
-        }
-    }
-
+public final class PromiseTests extends Rows {
     private static void begin(int number) {
-        promise = number;
-        row = 0;
+        begin("promise " + number);
     }
-
-    private static BlockerDesk desk(int n, int... sets) {
-        BlockerDesk x = new BlockerDesk();
-        x.points(n);
-        for (int s : sets) {
-            x.add(s);
-        }
-        return x;
-    }
-
-    private static int readText(BlockerDesk x, String text) {
-        for (int i = 0; i < text.length(); i++) {
-            x.feed(text.charAt(i));
-        }
-        return x.read();
-    }
-
-    private static void saidIs(BlockerDesk x, String text) {
-        due(x.say(-1), text.length());
-        for (int i = 0; i < text.length(); i++) {
-            due(x.say(i), text.charAt(i));
-        }
-        due(x.say(text.length()), -2);
-    }
-
-    private static void setsAre(BlockerDesk x, int... sets) {
-        due(x.set(-1), sets.length);
-        for (int i = 0; i < sets.length; i++) {
-            due(x.set(i), sets[i]);
-        }
-        due(x.set(sets.length), -2);
-    }
-
-    private static void blockerIs(BlockerDesk x, int... sets) {
-        due(x.blocker(-1), sets.length);
-        for (int i = 0; i < sets.length; i++) {
-            due(x.blocker(i), sets[i]);
-        }
-        due(x.blocker(sets.length), -2);
-    }
-
-    private static void traceIs(BlockerDesk x, int... bodies) {
-        for (int i = 0; i < bodies.length; i++) {
-            due(x.trace(i), bodies[i]);
-        }
-        due(x.trace(bodies.length), -2);
-    }
-
-    private static final int[] RING = {3, 6, 12, 24, 17};
 
     public static void main(String[] args) {
         newObject();
@@ -106,10 +42,7 @@ public final class PromiseTests {
         taken();
         imageAndUndo();
         count();
-        System.out.println(wrong == 0 ? "promises: all answers are as due" : "promises: " + wrong + " wrong");
-        if (wrong != 0) {
-            System.exit(1);
-        }
+        end("promises");
     }
 
     private static void newObject() {
