@@ -50,7 +50,7 @@ public final class BlockerDesk {
     private final Row ran = new Row(TRACE_ROOM);
     private final Reader reader = new Reader(tape);
     private final Point[] kinds = {new Point(ran), new Hard(ran), new Soft(ran), new Twin(ran), new Core(ran)};
-    /** For each state of what is left of POINTS how many sets go into it: the work of nu(2). */
+    /** For each state of what is left of POINTS how many sets lead to it at most: the work of nu(2). */
     private final int[] most = new int[729];
 
     public BlockerDesk() {
@@ -821,21 +821,33 @@ public final class BlockerDesk {
             return MOST_POINTS;
         }
 
-        /** DOUBLE NU; what is left of each point (0 .. 2) is a figure of a number to the base 3. */
+        /**
+         * DOUBLE NU; what is left of each point (0 .. 2) is a figure of a number to the base 3. From all
+         * that is left at first one goes down, so that what no sets lead to costs nothing.
+         */
         static int mostTwice(long family, int n, int[] most) {
             int states = POWERS_OF_3[n];
             for (int left = 0; left < states; left++) {
-                long fitting = without(family, usedUp(left));
-                int best = 0;
-                for (int s = 1; s < ALL_SETS && fitting >>> s != 0; s++) {
-                    int rest = left - IN_BASE_3[s];
-                    if (has(fitting, s) && rest >= 0) {
-                        best = Math.max(best, 1 + most[rest]);
-                    }
-                }
-                most[left] = best;
+                most[left] = -1;
             }
-            return most[states - 1];
+            most[states - 1] = 0;
+            int best = 0;
+            for (int left = states - 1; left >= 0; left--) {
+                if (most[left] >= 0) {
+                    best = Math.max(best, most[left]);
+                    takeOneMore(without(family, usedUp(left)), left, most);
+                }
+            }
+            return best;
+        }
+
+        static void takeOneMore(long fitting, int left, int[] most) {
+            for (int s = 1; s < ALL_SETS && fitting >>> s != 0; s++) {
+                int rest = left - IN_BASE_3[s];
+                if (has(fitting, s) && rest >= 0) {
+                    most[rest] = Math.max(most[rest], most[left] + 1);
+                }
+            }
         }
 
         /** The points of which nothing is left. */
@@ -856,8 +868,8 @@ public final class BlockerDesk {
             for (int twos = 0; twos <= all; twos++) {
                 long open = without(family, twos);
                 for (int ones = 0; ones <= all; ones++) {
-                    int sum = 2 * Integer.bitCount(twos) + Integer.bitCount(ones);
-                    if ((ones & twos) == 0 && sum < best && eachHasTwo(open, ones)) {
+                    int sum = (ones & twos) == 0 ? 2 * Integer.bitCount(twos) + Integer.bitCount(ones) : best;
+                    if (sum < best && eachHasTwo(open, ones)) {
                         best = sum;
                     }
                 }

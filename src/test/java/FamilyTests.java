@@ -11,6 +11,7 @@ public final class FamilyTests extends Rows {
             due(families, howMany[n - 1]);
         }
         eachSetOfSix();
+        manyOfSix();
         end("families");
     }
 
@@ -87,7 +88,11 @@ public final class FamilyTests extends Rows {
                 }
             }
         }
-        for (int s = -1; s <= 1 << n; s++) {
+        askSets(x, y, 1 << n);
+    }
+
+    private static void askSets(BlockerDesk x, NaiveDesk y, int all) {
+        for (int s = -1; s <= all; s++) {
             for (int what = -1; what < 4; what++) {
                 due(x.is(s, what), y.is(s, what));
             }
@@ -110,6 +115,41 @@ public final class FamilyTests extends Rows {
             for (int t = 0; t < s; t++) {
                 begin("the sets " + s + ", " + t + " of six POINTS");
                 cheapQuestions(desk(6, s, t), naive(6, s, t));
+            }
+        }
+    }
+
+    /** Of six POINTS there are 7,828,354 families: some of them, with few sets and many, and their blockers. */
+    private static void manyOfSix() {
+        java.util.Random random = new java.util.Random(6);
+        for (int k = 0; k < 700; k++) {
+            BlockerDesk x = desk(6);
+            NaiveDesk y = naive(6);
+            int least = 1 + random.nextInt(3);
+            int tries = 1 + random.nextInt(30);
+            for (int i = 0; i < tries; i++) {
+                int set = random.nextInt(64);
+                int size = Integer.bitCount(set);
+                if (size >= least && size <= least + 1) {
+                    due(x.add(set), y.add(set));
+                }
+            }
+            if (random.nextBoolean()) {
+                due(x.turn(), y.turn());
+            }
+            begin("six POINTS, " + board(x).subList(7, board(x).size()));
+            for (int i = 11; i < 21; i++) {
+                due(x.set(i), y.set(i));
+                due(x.blocker(i), y.blocker(i));
+            }
+            cheapQuestions(x, y);
+            dearQuestions(x, y);
+            askSets(x, y, 64);
+            for (int i = 0; i < 100; i++) {
+                int d = random.nextInt(64);
+                int c = random.nextInt(64) & ~d;
+                int at = random.nextInt(8) - 1;
+                due(x.minor(d, c, at), y.minor(d, c, at));
             }
         }
     }
